@@ -14,10 +14,7 @@ public final class SilkHouse {
     private final Ovens ovens = new Ovens();
     private final Neighbours neighbours = new Neighbours();
     private final Papers papers = new Papers();
-    // One fraction serves every call, so that no call makes an object.
-    private final Fraction fraction = new Fraction();
     private int now = 0;
-    private int faultByte = NONE;
 
     public SilkHouse() {
     }
@@ -113,8 +110,7 @@ public final class SilkHouse {
         if (judge.piles.skeins[look] == 0) {
             return NOT;
         }
-        fraction.become(judge.piles.dry[look], judge.piles.raw[look]);
-        return (int) fraction.part(what);
+        return (int) inLeastTerms(judge.piles.dry[look], judge.piles.raw[look], what);
     }
 
     public int count(int what) {
@@ -183,16 +179,11 @@ public final class SilkHouse {
             return FULL;
         }
         int found = reader.read();
-        if (found != 0) {
-            faultByte = reader.faultByte;
-            return -10 - found;
-        }
-        faultByte = NONE;
-        return book.enact(day);
+        return found == 0 ? book.enact(day) : -10 - found;
     }
 
     public int fault() {
-        return faultByte;
+        return reader.faultByte;
     }
 
     public int force(int name, int day) {
@@ -222,17 +213,15 @@ public final class SilkHouse {
         if (!within(day, 0, now) || !within(what, 0, 1)) {
             return OUTSIDE;
         }
-        return setLawful(b, day) ? fraction.part(what) : NOT;
+        if (judge.weighUp(b, day) != Judge.SETTLED) {
+            return NOT;
+        }
+        return inLeastTerms(judge.upper() * moistened(b, day), judge.lower() * 1000, what);
     }
 
-    /** Puts the LAWFUL weight into the fraction; false: the BALE is not SETTLED on that DAY. */
-    private boolean setLawful(int b, int day) {
-        if (judge.weighUp(b, day) != Judge.SETTLED) {
-            return false;
-        }
-        judge.putRatio(fraction);
-        fraction.times(bales.gross[b] * (1000L + book.holding(Book.WATER, day)), 1000);
-        return true;
+    /** GROSS times (1000 and water): times a RATIO it is a thousand times the LAWFUL weight. */
+    private long moistened(int b, int day) {
+        return bales.gross[b] * (1000L + book.holding(Book.WATER, day));
     }
 
     public long span(int b, int what) {
@@ -247,10 +236,9 @@ public final class SilkHouse {
             return NOT;
         }
         // DRY is never above RAW, so the RATIO falls as both lose more: the greatest ERRORS make it least.
-        long less = what < 2 ? errors(b, true) : errors(b, false);
-        fraction.become(judge.piles.dry[0] - less, judge.piles.raw[0] - less);
-        fraction.times(bales.gross[b] * (1000L + book.holding(Book.WATER, now)), 1000);
-        return fraction.part(what % 2);
+        long less = errors(b, what < 2);
+        long up = (judge.piles.dry[0] - less) * moistened(b, now);
+        return inLeastTerms(up, (judge.piles.raw[0] - less) * 1000, what % 2);
     }
 
     /** The greatest (or least) ERRORS of all SKEINS of LOOK 0 together. */
@@ -319,12 +307,13 @@ public final class SilkHouse {
         if (bales.threads[b] == 0) {
             return NONE;
         }
+        long n = bales.threads[b];
+        long sum = bales.allSizes(b);
         if (what < 2) {
-            bales.putMean(b, fraction);
-        } else {
-            bales.putUneven(b, fraction);
+            return (int) inLeastTerms(sum, n, what);
         }
-        return (int) fraction.part(what % 2);
+        // The mean of squared differences is the mean of squares less the square of the mean.
+        return (int) inLeastTerms(n * bales.allSquares(b) - sum * sum, n * n, what % 2);
     }
 
     public int named(int b, int day) {
@@ -337,7 +326,7 @@ public final class SilkHouse {
         if (bales.threads[b] == 0) {
             return NONE;
         }
-        return book.naming(bales.sizes(b), bales.threads[b], day);
+        return book.naming(bales.allSizes(b), bales.threads[b], day);
     }
 
     public int turns(int b, int v) {
@@ -450,13 +439,15 @@ public final class SilkHouse {
         if (!bales.has(b)) {
             return UNKNOWN;
         }
-        if (papers.certified(b) || !setLawful(b, now)) {
+        if (papers.certified(b) || judge.weighUp(b, now) != Judge.SETTLED) {
             return NOT;
         }
         if (!papers.hasRoom(1)) {
             return FULL;
         }
-        return papers.write(Papers.CERTIFICATE, b, (int) fraction.whole(), NONE, now);
+        long lower = judge.lower() * 1000;
+        long weight = lower == 0 ? 0 : judge.upper() * moistened(b, now) / lower;
+        return papers.write(Papers.CERTIFICATE, b, (int) weight, NONE, now);
     }
 
     public int bill(int paper, int price) {
@@ -539,40 +530,21 @@ public final class SilkHouse {
         return n >= least && n <= most;
     }
 
-    /** A fraction in least terms, its lower number above 0. */
-    private static final class Fraction {
-        private long upper = 0;
-        private long lower = 1;
+    /** The upper (what = 0) or lower number (1) of a fraction in least terms. */
+    private static long inLeastTerms(long upper, long lower, int what) {
+        long common = greatestDivisor(upper, lower);
+        long part = what == 0 ? upper : lower;
+        return common == 0 ? part : part / common;
+    }
 
-        void become(long up, long low) {
-            long shared = low > 0 ? divisor(Math.abs(up), low) : 0;
-            if (shared > 0) {
-                upper = up / shared;
-                lower = low / shared;
-            }
+    private static long greatestDivisor(long a, long b) {
+        // Euclid's way takes fewer than a hundred steps on longs.
+        for (int step = 0; step < 100 && b != 0; step++) {
+            long rest = a % b;
+            a = b;
+            b = rest;
         }
-
-        void times(long up, long low) {
-            become(upper * up, lower * low);
-        }
-
-        long part(int what) {
-            return what == 0 ? upper : lower;
-        }
-
-        long whole() {
-            return lower == 0 ? 0 : upper / lower;
-        }
-
-        private static long divisor(long a, long b) {
-            // Euclid's steps on longs are fewer than 100.
-            for (int step = 0; step < 200 && b != 0; step++) {
-                long rest = a % b;
-                a = b;
-                b = rest;
-            }
-            return a;
-        }
+        return a;
     }
 
     /** Three piles of SKEINS, each with what it weighs raw and dry; a pile's RATIO is dry by raw. */
@@ -595,12 +567,18 @@ public final class SilkHouse {
             skeins[p]++;
         }
 
+        void remove(int p, int rawWeight, int dryWeight) {
+            raw[p] -= rawWeight;
+            dry[p] -= dryWeight;
+            skeins[p]--;
+        }
+
         /** Whether a thousand times the difference of two RATIOS is above a bound. */
         boolean differ(int p, int q, int bound) {
             return 1000 * Math.abs(dry[p] * raw[q] - dry[q] * raw[p]) > bound * raw[p] * raw[q];
         }
 
-        /** The RATIO of a pile as a share of all three raw weights multiplied: these can be held against one another. */
+        /** The RATIO of a pile times all three raw weights: whole numbers that can be held against one another. */
         long level(int p) {
             return dry[p] * raw[(p + 1) % 3] * raw[(p + 2) % 3];
         }
@@ -760,7 +738,7 @@ public final class SilkHouse {
         }
 
         /** All SIZES of a BALE together. */
-        int sizes(int b) {
+        int allSizes(int b) {
             int sum = 0;
             for (int t = 0; t < threads[b]; t++) {
                 sum += sizes[b * MOST_THREADS + t];
@@ -768,7 +746,7 @@ public final class SilkHouse {
             return sum;
         }
 
-        private long squares(int b) {
+        long allSquares(int b) {
             long sum = 0;
             for (int t = 0; t < threads[b]; t++) {
                 long one = sizes[b * MOST_THREADS + t];
@@ -777,22 +755,12 @@ public final class SilkHouse {
             return sum;
         }
 
-        void putMean(int b, Fraction mean) {
-            mean.become(sizes(b), threads[b]);
-        }
-
-        /** The mean of squared differences is the mean of squares less the square of the mean. */
-        void putUneven(int b, Fraction uneven) {
-            long n = threads[b];
-            long sum = sizes(b);
-            uneven.become(n * squares(b) - sum * sum, n * n);
-        }
-
         int untwist(int b, int v) {
             int first = b * MOST_TWISTS;
             int place = first + twists[b];
-            for (; place > first && turnRows[place - 1] > v; place--) {
+            while (place > first && turnRows[place - 1] > v) {
                 turnRows[place] = turnRows[place - 1];
+                place--;
             }
             turnRows[place] = v;
             twists[b]++;
@@ -891,7 +859,7 @@ public final class SilkHouse {
             return last;
         }
 
-        /** The last name clause that counts on a DAY and has the mean of so many SIZES, told together, between its NUMBERS. */
+        /** The last name clause that counts on a DAY for THREADS whose SIZES are so much together. */
         int naming(int sizes, int threads, int onDay) {
             findCounting(onDay);
             int clause = NONE;
@@ -997,7 +965,8 @@ public final class SilkHouse {
 
         /** Whether anything stands behind the blanks. */
         private boolean skipBlanks() {
-            for (; at < length && text[at] == ' '; at++) {
+            while (at < length && text[at] == ' ') {
+                at++;
             }
             return at < length;
         }
@@ -1155,7 +1124,8 @@ public final class SilkHouse {
 
         private int endOfRun(char low, char high) {
             int end = at;
-            for (; end < length && text[end] >= low && text[end] <= high; end++) {
+            while (end < length && text[end] >= low && text[end] <= high) {
+                end++;
             }
             return end;
         }
@@ -1256,9 +1226,13 @@ public final class SilkHouse {
             return lesserOf(greater, 2) == 2 ? 2 : greater;
         }
 
-        void putRatio(Fraction ratio) {
-            long sum = piles.dry[one] * piles.raw[other] + piles.dry[other] * piles.raw[one];
-            ratio.become(sum, 2 * piles.raw[one] * piles.raw[other]);
+        /** The RATIO of a BALE that is SETTLED, not in least terms. */
+        long upper() {
+            return piles.dry[one] * piles.raw[other] + piles.dry[other] * piles.raw[one];
+        }
+
+        long lower() {
+            return 2 * piles.raw[one] * piles.raw[other];
         }
     }
 
@@ -1343,7 +1317,8 @@ public final class SilkHouse {
             if (within(code, HANDS_FROM, HANDS_FROM + 7)) {
                 return agreeWithout(Skeins.HAND, code - HANDS_FROM, 2);
             }
-            return code >= SKEINS_FROM && agreeWithout(ITSELF, code - SKEINS_FROM, 1);
+            int s = code - SKEINS_FROM;
+            return skeins.has(s) && isInDoubt(s) && agreeWithout(ITSELF, s, 1);
         }
 
         private boolean agreeWithout(int what, int value, int leastOut) {
@@ -1380,7 +1355,13 @@ public final class SilkHouse {
 
         int fewest(int risk) {
             int n = listLook(0);
-            tryAllWays(n);
+            piles.clear();
+            for (int k = 0; k < n; k++) {
+                heap(0, first[k]);
+                bad[k + 1] = 0;
+                ways[k + 1] = 0;
+            }
+            takeFrom(0, n);
             for (int taken = 2; taken <= n; taken++) {
                 if (100 * bad[taken] <= risk * ways[taken]) {
                     return taken;
@@ -1389,26 +1370,20 @@ public final class SilkHouse {
             return NONE;
         }
 
-        /** Counts all ways to take some of n SKEINS, by how many are taken, and those that lie too far from all of them. */
-        private void tryAllWays(int n) {
-            for (int taken = 0; taken <= n; taken++) {
-                bad[taken] = 0;
-                ways[taken] = 0;
-            }
-            for (int set = 1; set < 1 << n; set++) {
-                piles.clear();
-                for (int k = 0; k < n; k++) {
-                    heap(0, first[k]);
-                    if ((set >> k & 1) == 1) {
-                        heap(1, first[k]);
-                    }
-                }
+        /** Leaves the k-th of n SKEINS or takes it into pile 1, and so on: counts all ways, and those far from pile 0. */
+        private void takeFrom(int k, int n) {
+            if (k >= n) {
                 int taken = piles.skeins[1];
                 ways[taken]++;
                 if (piles.differ(0, 1, part)) {
                     bad[taken]++;
                 }
+                return;
             }
+            takeFrom(k + 1, n);
+            heap(1, first[k]);
+            takeFrom(k + 1, n);
+            piles.remove(1, skeins.get(first[k], Skeins.RAW), skeins.get(first[k], Skeins.DRY));
         }
     }
 
@@ -1452,7 +1427,7 @@ public final class SilkHouse {
             arrangedFor = m;
         }
 
-        /** Tries all OVENS for a LOAD and those behind it, the lesser OVEN first, so that of like ends the first stays. */
+        /** Tries all OVENS for a LOAD and those behind it, the lesser first, so that of like ends the first stays. */
         private void place(int load, int m, int end) {
             if (end >= bestEnd) {
                 return;
@@ -1471,7 +1446,7 @@ public final class SilkHouse {
         }
     }
 
-    /** Bales that two houses had, each with the DIFFERENCES that can be by it, and those left out where they QUARREL. */
+    /** Bales that two houses had, each with its DIFFERENCES, and those left out where they QUARREL. */
     private static final class Neighbours {
         static final int MOST = 8;
         private static final int FAR = 1000000;
