@@ -1300,7 +1300,7 @@ public final class SilkHouse {
         int culprit(int i) {
             int found = 0;
             for (int code = 0; code < SKEINS_FROM + skeins.number; code++) {
-                if (isCause(code)) {
+                if (isSuspect(code) && agreeWithout(code)) {
                     if (found == i) {
                         return code;
                     }
@@ -1310,19 +1310,25 @@ public final class SilkHouse {
             return i == NONE ? found : NONE;
         }
 
-        private boolean isCause(int code) {
-            if (within(code, 0, 3)) {
-                return agreeWithout(Skeins.OVEN, code, 2);
+        private boolean isSuspect(int code) {
+            if (code < SKEINS_FROM) {
+                return within(code, 0, 3) || within(code, HANDS_FROM, HANDS_FROM + 7);
             }
-            if (within(code, HANDS_FROM, HANDS_FROM + 7)) {
-                return agreeWithout(Skeins.HAND, code - HANDS_FROM, 2);
-            }
-            int s = code - SKEINS_FROM;
-            return skeins.has(s) && isInDoubt(s) && agreeWithout(ITSELF, s, 1);
+            return isInDoubt(code - SKEINS_FROM);
         }
 
-        private boolean agreeWithout(int what, int value, int leastOut) {
-            return gatherWithout(what, value) >= leastOut && bothLeft() && !piles.differ(0, 1, part);
+        private boolean agreeWithout(int code) {
+            int out;
+            int fewest = 2;
+            if (code < HANDS_FROM) {
+                out = gatherWithout(Skeins.OVEN, code);
+            } else if (code < SKEINS_FROM) {
+                out = gatherWithout(Skeins.HAND, code - HANDS_FROM);
+            } else {
+                out = gatherWithout(ITSELF, code - SKEINS_FROM);
+                fewest = 1;
+            }
+            return out >= fewest && bothLeft() && !piles.differ(0, 1, part);
         }
 
         int oddPairs(int look) {

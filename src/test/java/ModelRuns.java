@@ -1054,8 +1054,10 @@ public final class ModelRuns {
             int bales = from(1, 3);
             for (int b = 0; b < bales; b++) due(run, "bale(1000)", x.bale(1000 + b), y.bale(1000 + b));
             if (any(2) == 0) sayText(x, y, run);
-            for (int call = 0; call < 280; call++) {
-                switch (any(9)) {
+            // Every eighth run tells far more than it asks, so that it comes to what is FULL.
+            boolean eager = k % 8 == 0;
+            for (int call = 0; call < (eager ? 420 : 280); call++) {
+                switch (eager && any(2) == 0 ? 0 : any(9)) {
                     case 0, 1, 2, 3 -> tell(x, y, run);
                     case 4, 5, 6 -> askBale(x, y, run, someBale(y));
                     case 7 -> askRest(x, y, run);

@@ -1009,6 +1009,7 @@ public final class PromiseRuns {
         due("no room", x.certify(1), FULL);
         due("UNKNOWN first", x.certify(2), UNKNOWN);
         due("nothing changed", x.count(6), 40);
+        due("FEES of two", x.count(10), 20);
         SilkHouse y = certain(1);
         y.skein(0, 0, 0, 1000, 500, 0, 0);
         due("a weight of 0", y.certify(0), 0);
