@@ -1043,7 +1043,101 @@ public final class ModelRuns {
         }
     }
 
+    static void say(SilkHouse x, Model y, StringBuilder run, String all, int day) {
+        for (int at = 0; at < all.length(); at += 8) {
+            int n = Math.min(8, all.length() - at);
+            long bytes = 0;
+            for (int k = 0; k < n; k++) bytes = bytes << 8 | all.charAt(at + k);
+            due(run, "feed", x.feed(n, bytes), y.feed(n, bytes));
+        }
+        due(run, "rule(" + day + ") of [" + all + "]", x.rule(day), y.rule(day));
+    }
+
+    /** Tells as much as there is room for, and asks everything then. */
+    static void fullHouse() {
+        SilkHouse x = new SilkHouse();
+        Model y = new Model();
+        StringBuilder run = new StringBuilder("a full house:\n");
+        for (int b = 0; b < 11; b++) due(run, "bale", x.bale(900 + b), y.bale(900 + b));
+        say(x, y, run, "let looks 1;let skeins 1;", 0);
+        for (int t = 0; t < 31; t++) {
+            if (t % 6 == 5) due(run, "go", x.go(1), y.go(1));
+            due(run, "test", x.test(t * 7 % 4, 500 + t, 510), y.test(t * 7 % 4, 500 + t, 510));
+        }
+        for (int s = 0; s < 61; s++) {
+            int b = s < 36 ? 9 : s % 9;
+            int dry = 950 - s * 13 % 29;
+            due(run, "skein", x.skein(b, s % 3, s % 4, 1000, dry, s % 4, s % 8), y.skein(b, s % 3, s % 4, 1000, dry, s % 4, s % 8));
+        }
+        String words = "name aaaaaaaa 1 to 2;name bbbbbbbb 2 to 30;name cccccccc 1 to 9999;strike 0;";
+        for (int r = 1; r < 9; r++) say(x, y, run, r == 8 ? "take least;" : words + "let part " + r + ";", 9 - r);
+        for (int k = 0; k < 13; k++) due(run, "thread", x.thread(9, 5 + k), y.thread(9, 5 + k));
+        for (int k = 0; k < 9; k++) {
+            due(run, "turns", x.turns(9, 90 - k % 5), y.turns(9, 90 - k % 5));
+            due(run, "load", x.load(70 + k * k), y.load(70 + k * k));
+            due(run, "shared", x.shared(5 + k, 9 + k, 4, 5), y.shared(5 + k, 9 + k, 4, 5));
+        }
+        papersTillFull(x, y, run);
+        askAll(x, y, run);
+    }
+
+    static void papersTillFull(SilkHouse x, Model y, StringBuilder run) {
+        due(run, "certify(9)", x.certify(9), y.certify(9));
+        int half = y.papers.get(0).amount / 2;
+        int rest = y.papers.get(0).amount - half;
+        due(run, "cut(0, ..)", x.cut(0, half, rest), y.cut(0, half, rest));
+        for (int k = 0; k < 39; k++) {
+            due(run, "bill", x.bill(1 + k % 2, k), y.bill(1 + k % 2, k));
+            if (k == 20) due(run, "undo(1)", x.undo(1), y.undo(1));
+            if (k % 9 == 0) due(run, "go(1)", x.go(1), y.go(1));
+            if (k % 4 == 0) due(run, "certify", x.certify(k / 4), y.certify(k / 4));
+        }
+    }
+
+    static void askAll(SilkHouse x, Model y, StringBuilder run) {
+        for (int a = -1; a <= 60; a++) {
+            for (int b = -1; b <= 9; b++) {
+                due(run, "told(" + a + ", " + b + ")", x.told(a, b), y.told(a, b));
+                due(run, "paper(" + a + ", " + b + ")", x.paper(a, b), y.paper(a, b));
+            }
+            due(run, "count(" + a + ")", x.count(a), y.count(a));
+            due(run, "lose(" + a + ")", a % 9 == 0 ? x.lose(a) : 0, a % 9 == 0 ? y.lose(a) : 0);
+        }
+        for (int b = -1; b <= 10; b++) {
+            for (int k = -2; k <= 9; k++) {
+                for (int n = 0; n < 3; n++) due(run, "ratio", x.ratio(b, k, n), y.ratio(b, k, n));
+                due(run, "state(" + b + ", " + k + ")", x.state(b, k), y.state(b, k));
+                due(run, "lawful(" + b + ", " + k + ", 0)", x.lawful(b, k, 0), y.lawful(b, k, 0));
+                due(run, "span(" + b + ", " + k + ")", x.span(b, k), y.span(b, k));
+                due(run, "cause(" + b + ", " + k + ")", x.cause(b, k), y.cause(b, k));
+                due(run, "odd(" + b + ", " + k + ")", x.odd(b, k), y.odd(b, k));
+                due(run, "size(" + b + ", " + k + ")", x.size(b, k), y.size(b, k));
+                due(run, "named(" + b + ", " + k + ")", x.named(b, k), y.named(b, k));
+                due(run, "cheat(" + b + ", 0, 0, " + 9 * k + ")", x.cheat(b, 0, 0, 9 * k), y.cheat(b, 0, 0, 9 * k));
+            }
+            due(run, "needed(" + b + ", 10)", x.needed(b, 10), y.needed(b, 10));
+            due(run, "twist(" + b + ")", x.twist(b), y.twist(b));
+        }
+        for (int k = -2; k <= 9; k++) {
+            for (int n = -1; n <= 8; n++) {
+                due(run, "error(" + n + ", " + k + ", 0)", x.error(n, k, 0), y.error(n, k, 0));
+                due(run, "error(" + n + ", " + k + ", 1)", x.error(n, k, 1), y.error(n, k, 1));
+                due(run, "force(" + n + ", " + k + ")", x.force(n, k), y.force(n, k));
+                due(run, "order(" + n + ", " + k + ")", x.order(n, k), y.order(n, k));
+                for (int c = 0; c < 13; c++) {
+                    int clause = 100 * n + c;
+                    due(run, "letter(" + clause + ", " + k + ")", x.letter(clause, k), y.letter(clause, k));
+                }
+            }
+            due(run, "houses(" + k + ")", x.houses(k), y.houses(k));
+            due(run, "stood(" + k + ", 0)", x.stood(k, 0), y.stood(k, 0));
+            due(run, "stood(" + k + ", 1)", x.stood(k, 1), y.stood(k, 1));
+        }
+        due(run, "fault()", x.fault(), y.fault);
+    }
+
     public static void main(String[] args) {
+        fullHouse();
         int runs = args.length > 0 ? Integer.parseInt(args[0]) : 1500;
         int answers = 0;
         for (int k = 0; k < runs; k++) {

@@ -468,6 +468,10 @@ public final class PromiseRuns {
         due("far below 0", x.letter(Integer.MIN_VALUE, 0), UNKNOWN);
         enact(x, "strike 0;", 0);
         due("of one that is struck", x.letter(1, 1), 'i');
+        due("no name, as far as a WORD goes", x.letter(0, 7), NONE);
+        due("not the next one's", enact(x, "name abcdefgh 1 to 2;name ijklmnop 1 to 2;", 0), 3);
+        due("not the next one's", x.letter(300, 8), NONE);
+        due("not the one's before", x.letter(301, -1), NONE);
     }
 
     private static void state() {
@@ -611,6 +615,10 @@ public final class PromiseRuns {
         due("greatest by the least ERROR", x.span(0, 3), lower(940000, 1040));
         enact(x, "let water 100;", 2);
         due("with the water of NOW", x.span(0, 0), upper(982300, 993));
+        x.skein(0, 1, 0, 1000, 700, 0, 0);
+        x.skein(0, 2, 0, 1000, 700, 0, 0);
+        due("LOOK 0 alone", x.span(0, 0), upper(982300, 993));
+        due("LOOK 0 alone", x.span(0, 1), lower(982300, 993));
         x.lose(3);
         due("all LOST", x.span(0, 3), NOT);
     }
@@ -1010,6 +1018,15 @@ public final class PromiseRuns {
         due("UNKNOWN first", x.certify(2), UNKNOWN);
         due("nothing changed", x.count(6), 40);
         due("FEES of two", x.count(10), 20);
+        SilkHouse w = certain(10);
+        w.bale(20);
+        w.skein(0, 0, 0, 1000, 500, 0, 0);
+        w.skein(1, 0, 0, 1000, 500, 0, 0);
+        w.certify(0);
+        for (int k = 1; k < 39; k++) {
+            w.bill(0, k);
+        }
+        due("the last that has room", w.certify(1), 39);
         SilkHouse y = certain(1);
         y.skein(0, 0, 0, 1000, 500, 0, 0);
         due("a weight of 0", y.certify(0), 0);
@@ -1088,6 +1105,24 @@ public final class PromiseRuns {
                 due("NOT before FULL", x.cut(whole, 1, left - 1), NOT);
             }
         }
+    }
+
+    private static void cutsTillFull() {
+        SilkHouse x = certain(1000);
+        x.skein(0, 0, 0, 1000, 1000, 0, 0);
+        x.certify(0);
+        x.cut(0, 1, 999);
+        x.bill(1, 1);
+        int whole = 2;
+        for (int left = 998; x.count(6) < 38; left--) {
+            due("cut", x.cut(whole, 1, left), x.count(6) - 2);
+            whole = x.count(6) - 1;
+        }
+        int weight = x.paper(whole, 2);
+        due("just room for two", x.cut(whole, weight - 1, 1), 38);
+        due("all PAPERS", x.count(6), 40);
+        due("b is the next", x.paper(39, 2), 1);
+        due("no room", x.cut(38, weight - 2, 1), FULL);
     }
 
     private static void undo() {
@@ -1222,7 +1257,10 @@ public final class PromiseRuns {
             case 33 -> houses();
             case 34 -> certify();
             case 35 -> bill();
-            case 36 -> cut();
+            case 36 -> {
+                cut();
+                cutsTillFull();
+            }
             case 37 -> undo();
             case 38 -> paper();
             default -> stood();
