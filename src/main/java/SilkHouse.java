@@ -1245,11 +1245,11 @@ public final class SilkHouse {
         private final Skeins skeins;
         private final Piles piles = new Piles();
         private final int[] first = new int[Skeins.MOST_OF_LOOK];
-        private final int[] bad = new int[Skeins.MOST_OF_LOOK + 1];
-        private final int[] ways = new int[Skeins.MOST_OF_LOOK + 1];
         private int bale = 0;
         private int day = 0;
         private int part = 0;
+        private int ways = 0;
+        private int far = 0;
 
         Doubts(Skeins skeins) {
             this.skeins = skeins;
@@ -1364,32 +1364,33 @@ public final class SilkHouse {
             piles.clear();
             for (int k = 0; k < n; k++) {
                 heap(0, first[k]);
-                bad[k + 1] = 0;
-                ways[k + 1] = 0;
             }
-            takeFrom(0, n);
-            for (int taken = 2; taken <= n; taken++) {
-                if (100 * bad[taken] <= risk * ways[taken]) {
-                    return taken;
+            for (int size = 2; size <= n; size++) {
+                ways = 0;
+                far = 0;
+                takeSome(size, 0, n);
+                if (100 * far <= risk * ways) {
+                    return size;
                 }
             }
             return NONE;
         }
 
-        /** Leaves the k-th of n SKEINS or takes it into pile 1, and so on: counts all ways, and those far from pile 0. */
-        private void takeFrom(int k, int n) {
-            if (k >= n) {
-                int taken = piles.skeins[1];
-                ways[taken]++;
+        /** Takes so many more, from the k-th of n SKEINS on, into pile 1: all ways, and those far from pile 0. */
+        private void takeSome(int more, int k, int n) {
+            if (more <= 0) {
+                ways++;
                 if (piles.differ(0, 1, part)) {
-                    bad[taken]++;
+                    far++;
                 }
                 return;
             }
-            takeFrom(k + 1, n);
-            heap(1, first[k]);
-            takeFrom(k + 1, n);
-            piles.remove(1, skeins.get(first[k], Skeins.RAW), skeins.get(first[k], Skeins.DRY));
+            for (int next = k; next <= n - more; next++) {
+                int s = first[next];
+                heap(1, s);
+                takeSome(more - 1, next + 1, n);
+                piles.remove(1, skeins.get(s, Skeins.RAW), skeins.get(s, Skeins.DRY));
+            }
         }
     }
 
@@ -1400,6 +1401,7 @@ public final class SilkHouse {
 
         private final int[] minutes = new int[MOST];
         private final int[] tried = new int[MOST];
+        // When each OVEN is done; all 0 again when everything was tried.
         private final int[] ends = new int[MOST_OVENS];
         final int[] best = new int[MOST];
         int number = 0;
@@ -1424,9 +1426,6 @@ public final class SilkHouse {
         void arrange(int m) {
             if (m == arrangedFor) {
                 return;
-            }
-            for (int o = 0; o < MOST_OVENS; o++) {
-                ends[o] = 0;
             }
             bestEnd = NEVER;
             place(0, m, 0);
