@@ -3,6 +3,7 @@ import java.lang.reflect.Method;
 import java.nio.file.Files;
 import java.nio.file.Path;
 import java.util.ArrayList;
+import java.util.BitSet;
 import java.util.List;
 import java.util.Map;
 import java.util.Set;
@@ -16,7 +17,7 @@ import java.util.stream.Stream;
  * Plays the runs of src/test/runs, each of which stands under the sentence of the document whose boundary it looks at
  * (src/test/runs/README.md tells how they are written). Behind each call that is refused, a twin to which that call was
  * not made is asked the same: what is refused changes nothing. At the end, each refusal that a promise names must have
- * been seen, and no other.
+ * been seen, and no other, and all that the document says from its terms on must stand above some run.
  */
 public final class BoundaryRuns {
     private static final Path RUNS = Path.of("src/test/runs");
@@ -26,6 +27,10 @@ public final class BoundaryRuns {
         "NOT", -100003L, "FULL", -100004L, "MIN", (long) Integer.MIN_VALUE, "MAX", (long) Integer.MAX_VALUE);
     private static final Map<String, Method> CALLS = new TreeMap<>();
     private static final Map<String, Set<String>> SEEN = new TreeMap<>();
+    // Which signs of the document, as plain() leaves it, stand above a run.
+    private static final BitSet CITED = new BitSet();
+    private static final Pattern ASKS_NOTHING = Pattern.compile(
+        "|text|Words in capitals are told where they come first\\.|(Ahead of the calls [^.]*\\. ?)+");
 
     private static int wrong = 0;
     private static int runs = 0;
@@ -344,6 +349,30 @@ public final class BoundaryRuns {
         return text.replaceAll("[`\\s]+", " ").trim();
     }
 
+    /** Marks what a run stands under; whether the document says it. */
+    private static boolean cite(String said, String document) {
+        int first = document.indexOf(said);
+        for (int at = first; at >= 0; at = document.indexOf(said, at + 1)) {
+            CITED.set(at, at + said.length());
+        }
+        return first >= 0;
+    }
+
+    /** From the terms on, each word of the document must stand above a run, but for those that ask for nothing. */
+    private static void checkCitations(String document) {
+        int end = document.indexOf("## Not promised");
+        int at = CITED.nextClearBit(document.indexOf("## Terms"));
+        while (at < end) {
+            int next = CITED.nextSetBit(at);
+            int to = next < 0 ? end : Math.min(next, end);
+            String left = document.substring(at, to).replaceAll("=+ \\d", "").trim();
+            if (!ASKS_NOTHING.matcher(left).matches()) {
+                complain("no run stands under: " + left);
+            }
+            at = CITED.nextClearBit(to);
+        }
+    }
+
     private static void playFile(Path file, String document, Set<String> promises)
             throws IOException, ReflectiveOperationException {
         String promise = "";
@@ -354,9 +383,12 @@ public final class BoundaryRuns {
             if (line.startsWith("== ")) {
                 promise = line.substring(3);
                 promises.add(promise);
+                if (!cite("## " + promise, document)) {
+                    complain(file + ":" + at + ": the document has no " + promise);
+                }
             } else if (line.startsWith("-- ")) {
                 String sentence = plain(line.substring(3).split(" // ")[0]);
-                if (!document.contains(sentence)) {
+                if (!cite(sentence, document)) {
                     complain(file + ":" + at + ": the document does not say: " + sentence);
                 }
                 if (run != null) {
@@ -406,6 +438,7 @@ public final class BoundaryRuns {
             playFile(file, plain(document), promises);
         }
         checkRefusals(document, promises);
+        checkCitations(plain(document));
         System.out.println(runs + " runs, " + answers + " answers, " + refusals + " refused calls held against a twin, "
             + wrong + " are not as due");
         if (wrong != 0 || runs == 0) {

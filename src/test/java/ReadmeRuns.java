@@ -1,4 +1,6 @@
 import java.io.IOException;
+import java.lang.reflect.Method;
+import java.lang.reflect.Modifier;
 import java.nio.file.FileVisitResult;
 import java.nio.file.Files;
 import java.nio.file.Path;
@@ -73,7 +75,9 @@ public final class ReadmeRuns {
         Files.copy(from, to);
     }
 
-    private static void copyTree(Path from, Path to) throws IOException {
+    private static void copyTree(Path folder, Path to) throws IOException {
+        // The folder itself may be a link, which walk() would not follow.
+        Path from = folder.toRealPath();
         try (var all = Files.walk(from)) {
             for (Path one : (Iterable<Path>) all::iterator) {
                 if (Files.isRegularFile(one)) {
@@ -140,6 +144,13 @@ public final class ReadmeRuns {
             inside.add(one.getSimpleName());
         }
         require(firstColumn(page, "class inside").equals(inside), "the classes inside are " + inside);
+        Set<String> calls = new TreeSet<>();
+        for (Method one : SilkHouse.class.getDeclaredMethods()) {
+            if (Modifier.isPublic(one.getModifiers())) {
+                calls.add(one.getName());
+            }
+        }
+        require(firstColumn(page, "call").equals(calls), "the calls are " + calls);
         Set<String> tests = new TreeSet<>();
         try (var files = Files.list(Path.of("src/test/java"))) {
             files.forEach(file -> tests.add(file.getFileName().toString().replace(".java", "")));
