@@ -16,6 +16,7 @@ import java.util.regex.Pattern;
 /** Does what README.md shows, word by word, in a copy of the project, and holds what it says against what is there. */
 public final class ReadmeRuns {
     private static final String TESTS = ".ci/run";
+    private static final Path PROGRAM = Path.of("src/example/java/Weighing.java");
     private static int wrong = 0;
 
     record Block(String kind, String text) {
@@ -93,18 +94,17 @@ public final class ReadmeRuns {
     }
 
     /** The page's program and its lines for the shell, in a copy of the project that has ../shared beside it. */
-    private static void doWhatIsShown(List<Block> blocks, Path room) throws Exception {
+    private static void doWhatIsShown(String page, Path room) throws Exception {
         Path project = room.resolve("shown/main");
         copyTree(Path.of("src"), project.resolve("src"));
         copyTree(Path.of("../shared"), room.resolve("shown/shared"));
         List<String> answers = null;
         int compared = 0;
         boolean testsAreShown = false;
-        for (Block block : blocks) {
+        for (Block block : blocksOf(page)) {
             if (block.kind.equals("java")) {
-                Matcher name = Pattern.compile("public final class (\\w+)").matcher(block.text);
-                require(name.find(), "a program without a class");
-                write(project.resolve(name.group(1) + ".java"), block.text);
+                require(block.text.equals(Files.readString(PROGRAM)), "the program shown is not that of " + PROGRAM);
+                require(page.contains("`" + PROGRAM + "`"), "it does not tell where its program is");
                 answers = shown(block.text);
             } else if (block.text.equals(TESTS + "\n")) {
                 testsAreShown = true;
@@ -202,7 +202,7 @@ public final class ReadmeRuns {
         String page = Files.readString(Path.of("README.md"));
         Path room = Files.createTempDirectory("readme");
         try {
-            doWhatIsShown(blocksOf(page), room);
+            doWhatIsShown(page, room);
             tablesAreWhole(page);
             testsFailWhereTheyMust(room);
         } finally {
